@@ -349,6 +349,9 @@ public final class SafetyPinsPromises {
         SafetyPins plain = of("SN0190N0191N0193W01");
         plain.day();
         due("only rusty ones wear", plain.count(8), 0);
+        SafetyPins seven = of("SN0192N0192N0192N0192N0192N0153N0193W06");
+        due("day() of seven pins", seven.day(), 1);
+        due("wear of five", seven.count(8), 5);
         SafetyPins none = of("SN0100");
         due("day() of no pull", none.day(), 0);
         due("count(4)", none.count(4), 1);
@@ -365,6 +368,7 @@ public final class SafetyPinsPromises {
         due("count(9)", x.count(9), 3);
         due("tug(3, 9)", x.tug(3, 9), 1);
         due("tug(3, 9), none left", x.tug(3, 9), 0);
+        due("tug(5, 1) of the least", of("SN4500").tug(5, 1), 1);
         due("count(5), sprung stays open", x.count(5), 7);
         due("count(9), an act that moved nothing", x.count(9), 5);
         String before = state(x);
@@ -577,6 +581,8 @@ public final class SafetyPinsPromises {
         due("parts(2, 5, 1)", far.parts(2, 5, 1), 2);
         due("parts(0, 1, 0) by 9", of("SN0180").parts(0, 1, 0), 9);
         due("parts(0, 1, 0), 9 holds", of("SN0190").parts(0, 1, 0), NONE);
+        due("parts(0, 1, 1) by 9", of("SN0180").parts(0, 1, 1), 0);
+        due("parts(4, 5, 0), the least", of("SN4500").parts(4, 5, 0), 1);
         due("parts(4, 5, 1)", of("SN4500").parts(4, 5, 1), 4);
         SafetyPins third = of("SN0290N2190N2300N2300N2300N2300N2300");
         due("parts(0, 1, 0), at a third thing", third.parts(0, 1, 0), 5);
@@ -783,6 +789,13 @@ public final class SafetyPinsPromises {
         unchanged("rests", before, x);
         // plain 5: one 6 alone or 3 and 3 part them, 3 alone doesn't
         rests(of("SN0150"), 4, 0);
+        // who is not left alone would give a 9, if there was such a choice
+        rests(of("SN0170N1291"), 3, 0);
+        // only 0 gives, and 1 is not left alone by it
+        rests(of("SN0200N2160N2300"), 1, 10);
+        SafetyPins apart = of("SN0190");
+        apart.open(0);
+        rests(apart, 1, 0);
     }
 
     private static void gives(SafetyPins x, int tenths, int above, int below) {
@@ -874,6 +887,12 @@ public final class SafetyPinsPromises {
         season(x, 20, 1);
         season(x, 31, 1);
         unchanged("seasons", before, x);
+        season(of("SN4530"), 5, 1);
+        SafetyPins seven = of("SN0190N0190N0190N0190N0190N0190N0190");
+        seven.open(6);
+        season(seven, 12, 0);
+        season(seven, 19, 1);
+        season(seven, 18, 2);
         SafetyPins day = of("SN0113W02");
         season(day, 19, 0);
         season(day, 20, 1);
