@@ -1,8 +1,6 @@
-import java.nio.file.Files;
-import java.nio.file.Path;
 import java.util.TreeSet;
 
-/** What the tests of the bounds share: sentences, scenes, refusals that must change nothing. */
+/** What the tests of the sentences share: sentences, scenes, refusals that must change nothing. */
 abstract class SafetyPinsBench {
     static final int UNKNOWN = -1, OUTSIDE = -2, STATE = -3, FULL = -4, NONE = -9;
     static final int LEAST = Integer.MIN_VALUE, MOST = Integer.MAX_VALUE;
@@ -26,7 +24,6 @@ abstract class SafetyPinsBench {
         long of(SafetyPinsCounted x, int first, int second);
     }
 
-    private static String document = null;
     private static int promise = 0;
     private static String sentence = null;
     private static final TreeSet<Integer> promises = new TreeSet<>();
@@ -47,8 +44,8 @@ abstract class SafetyPinsBench {
         promise = number;
         sentence = words;
         promises.add(number);
-        if (!document().contains(words)) {
-            fault("the document does not say this");
+        if (!SafetyPinsDocument.meet(number, words)) {
+            fault("the document does not say this, or not there");
         }
     }
 
@@ -61,17 +58,6 @@ abstract class SafetyPinsBench {
         if (sentence == null) {
             fault(test + " names no sentence");
         }
-    }
-
-    private static String document() {
-        if (document == null) {
-            try {
-                document = Files.readString(Path.of("../shared/DOC.md")).replaceAll("\\s+", " ");
-            } catch (java.io.IOException e) {
-                throw new IllegalStateException("no ../shared/DOC.md", e);
-            }
-        }
-        return document;
     }
 
     static void fault(String what) {
@@ -152,6 +138,45 @@ abstract class SafetyPinsBench {
         }
     }
 
+    // ---- seeds
+
+    static final long FACTOR = 6364136223846793005L;
+    static final long ADDED = 1442695040888963407L;
+
+    static long next(long seed) {
+        return seed * FACTOR + ADDED;
+    }
+
+    /** The seed from which the next is this one. */
+    static long before(long next) {
+        long inverse = FACTOR;
+        for (int round = 0; round < 6; round++) {
+            inverse *= 2 - FACTOR * inverse;
+        }
+        return (next - ADDED) * inverse;
+    }
+
+    static int lotOf(long seed) {
+        return (int) ((seed >>> 33) % 32);
+    }
+
+    /** A seed by which the next lots are these. */
+    static long seedFor(int... lots) {
+        for (long low = 0; low < 1000000; low++) {
+            long first = ((long) lots[0] << 33) + low;
+            long seed = first;
+            boolean isSo = true;
+            for (int i = 1; i < lots.length && isSo; i++) {
+                seed = seed * FACTOR + ADDED;
+                isSo = lotOf(seed) == lots[i];
+            }
+            if (isSo) {
+                return before(first);
+            }
+        }
+        throw new IllegalStateException("no such seed");
+    }
+
     // ---- nothing changes
 
     /** All that an object holds, asked out of it by every call that shows some of it; it is used up by this. */
@@ -208,6 +233,13 @@ abstract class SafetyPinsBench {
         SafetyPinsCounted with = scene.make();
         c.of(with);
         sameAs(scene.make(), call, with);
+    }
+
+    static void changesNothingAnywhere(String call, Call c) {
+        changesNothing(SafetyPinsBench::fresh, "on a new object, " + call, c);
+        changesNothing(SafetyPinsBench::half, "on half a town, " + call, c);
+        changesNothing(SafetyPinsBench::stirred, "on a whole town, " + call, c);
+        changesNothing(SafetyPinsBench::crowded, "on a crowded one, " + call, c);
     }
 
     static void sameAs(SafetyPinsCounted want, String call, SafetyPinsCounted got) {

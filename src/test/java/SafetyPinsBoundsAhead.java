@@ -2,13 +2,6 @@
 final class SafetyPinsBoundsAhead extends SafetyPinsBench {
     private static final String SEVEN_ALIKE = "S" + "N0510".repeat(7);
 
-    private static void changesNothingAnywhere(String call, Call c) {
-        changesNothing(SafetyPinsBench::fresh, "on a new object, " + call, c);
-        changesNothing(SafetyPinsBench::half, "on half a town, " + call, c);
-        changesNothing(SafetyPinsBench::stirred, "on a whole town, " + call, c);
-        changesNothing(SafetyPinsBench::crowded, "on a crowded one, " + call, c);
-    }
-
     private static void refusesWhatBut0And1(String call, CallOfOne c) {
         refusedFor(OUTSIDE, call, c, -1, 2, 3, LEAST, MOST);
     }

@@ -1,8 +1,5 @@
 /** The bounds of promises 20 to 27 and 30: tried, shares, rests, chances, seasons, counts. */
 final class SafetyPinsBoundsChances extends SafetyPinsBench {
-    private static final long FACTOR = 6364136223846793005L;
-    private static final long ADDED = 1442695040888963407L;
-
     // ---- promise 20
 
     static void p20_loads0To12() {
@@ -342,36 +339,6 @@ final class SafetyPinsBoundsChances extends SafetyPinsBench {
     }
 
     // ---- promise 27
-
-    /** The seed from which the next is this one. */
-    private static long before(long next) {
-        long inverse = FACTOR;
-        for (int round = 0; round < 6; round++) {
-            inverse *= 2 - FACTOR * inverse;
-        }
-        return (next - ADDED) * inverse;
-    }
-
-    private static int lotOf(long seed) {
-        return (int) ((seed >>> 33) % 32);
-    }
-
-    /** A seed by which the next lots are these. */
-    private static long seedFor(int... lots) {
-        for (long low = 0; low < 1000000; low++) {
-            long first = ((long) lots[0] << 33) + low;
-            long seed = first;
-            boolean isSo = true;
-            for (int i = 1; i < lots.length && isSo; i++) {
-                seed = seed * FACTOR + ADDED;
-                isSo = lotOf(seed) == lots[i];
-            }
-            if (isSo) {
-                return before(first);
-            }
-        }
-        throw new IllegalStateException("no such seed");
-    }
 
     private static void seasons(String told, SafetyPinsCounted x, int want, int... lots) {
         x.seed(seedFor(lots));

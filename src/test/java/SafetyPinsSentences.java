@@ -4,12 +4,14 @@ import java.util.Arrays;
 import java.util.Comparator;
 
 /**
- * Sentence by sentence: each that names a boundary case has a test of its own, at the bound and one step to each
- * side of it. Every method of the classes below whose name begins with the number of a promise is such a test.
+ * Sentence by sentence. Every method of the classes below whose name begins with the number of a promise is a test,
+ * and names the words of the document that it stands for: in SafetyPinsBounds.. those that name a boundary case, at
+ * the bound and one step to each side; in SafetyPinsWords.. the others. Words that no test stands for are a fault.
  */
-public final class SafetyPinsBounds {
-    private static final Class<?>[] TESTS = {SafetyPinsBoundsTown.class, SafetyPinsBoundsActs.class,
-        SafetyPinsBoundsAhead.class, SafetyPinsBoundsChances.class};
+public final class SafetyPinsSentences {
+    private static final Class<?>[] TESTS = {
+        SafetyPinsBoundsTown.class, SafetyPinsBoundsActs.class, SafetyPinsBoundsAhead.class, SafetyPinsBoundsChances.class,
+        SafetyPinsWordsTown.class, SafetyPinsWordsActs.class, SafetyPinsWordsAhead.class, SafetyPinsWordsChances.class};
 
     public static void main(String[] args) throws Exception {
         int tests = 0;
@@ -21,8 +23,12 @@ public final class SafetyPinsBounds {
                 SafetyPinsBench.fault("no sentence of promise " + promise + " has a test");
             }
         }
+        SafetyPinsBench.newTest();
+        for (String words : SafetyPinsDocument.unmet()) {
+            SafetyPinsBench.fault("no test stands for " + words);
+        }
         int wrong = SafetyPinsBench.wrong();
-        System.out.println(wrong == 0 ? tests + " sentences hold" : wrong + " answers are not as due");
+        System.out.println(wrong == 0 ? "the document's sentences hold, by " + tests + " tests" : wrong + " answers are not as due");
         if (wrong != 0) {
             System.exit(1);
         }
