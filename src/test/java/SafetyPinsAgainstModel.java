@@ -29,10 +29,12 @@ public final class SafetyPinsAgainstModel {
         }
     }
 
+    /** In every third run one town lasts to the last call, so that what has to grow for long can grow. */
     private boolean agrees(int run) {
+        boolean lasts = run % 3 == 0;
         tell(randomTown());
         while (calls < CALLS && same) {
-            if (dice.nextInt(90) == 0) {
+            if (lasts ? real.count(1) == 0 : dice.nextInt(90) == 0) {
                 tell(randomTown());
             } else {
                 oneCall(dice.nextInt(34));

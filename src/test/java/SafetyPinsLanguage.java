@@ -319,6 +319,8 @@ public final class SafetyPinsLanguage {
         int fields = gather(x, atFirst);
         must(12, atFirst.size() <= 100, "an object of " + atFirst.size() + " objects and arrays");
         must(12, fields <= 600, "an object of " + fields + " fields and elements");
+        String told = atFirst.size() + " objects and arrays, " + fields + " fields and elements";
+        must(12, Files.readString(Path.of("README.md")).contains(told), "README.md tells another room than " + told);
         for (char letter : "SN0102N1212N2303N3411W09W28D03D15".toCharArray()) {
             x.write(letter);
         }
